@@ -4,14 +4,54 @@ final class Due {
         long answer();
     }
 
+    interface Test {
+        void ask(Due due);
+    }
+
     private int calls = 0;
     private int wrong = 0;
+    private int sentences = 0;
+    private int callsBeforeSentence = 0;
+    private String sentence = "";
+
+    /** One test, apart from those that follow: a call of it that throws out of turn does not end them. */
+    void run(Test test) {
+        try {
+            test.ask(this);
+        } catch (RuntimeException e) {
+            tell("a call threw " + e + ", due is an answer");
+        }
+    }
+
+    /** From here on the answers belong to this sentence of the document; every sentence has at least one. */
+    void sentence(String text) {
+        endSentence();
+        sentences++;
+        callsBeforeSentence = calls;
+        sentence = text;
+    }
 
     void answer(String call, long got, long want) {
         calls++;
         if (got != want) {
-            wrong++;
-            System.out.println(call + " answered " + got + ", due is " + want);
+            tell(call + " answered " + got + ", due is " + want);
+        }
+    }
+
+    void same(String what, String got, String want) {
+        calls++;
+        if (!got.equals(want)) {
+            tell(what + ": it is " + got + ", due is " + want);
+        }
+    }
+
+    /** Whatever it answers, the call does not throw. */
+    void allowed(String call, Call made) {
+        calls++;
+        try {
+            made.answer();
+        } catch (RuntimeException e) {
+            tell(call + " threw " + e + ", due is an answer");
         }
     }
 
@@ -28,7 +68,7 @@ final class Due {
     }
 
     /** The exact class is asked for: the machine's own index exceptions are classes below the named one. */
-    private void thrown(String call, Call made, Class<?> want) {
+    void thrown(String call, Call made, Class<?> want) {
         calls++;
         String got;
         try {
@@ -39,14 +79,26 @@ final class Due {
             }
             got = "threw " + e;
         }
-        wrong++;
-        System.out.println(call + " " + got + ", due is " + want.getSimpleName());
+        tell(call + " " + got + ", due is " + want.getSimpleName());
     }
 
     void finish() {
-        System.out.println(calls + " answers, " + wrong + " of them wrong");
+        endSentence();
+        String asked = sentences == 0 ? "" : sentences + " sentences, ";
+        System.out.println(asked + calls + " answers, " + wrong + " of them wrong");
         if (wrong != 0 || calls == 0) {
             System.exit(1);
         }
+    }
+
+    private void endSentence() {
+        if (sentences > 0 && calls == callsBeforeSentence) {
+            tell("nothing was asked");
+        }
+    }
+
+    private void tell(String fault) {
+        wrong++;
+        System.out.println(sentence.isEmpty() ? fault : "[" + sentence + "] " + fault);
     }
 }
